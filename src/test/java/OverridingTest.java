@@ -130,6 +130,9 @@ public final class OverridingTest {
         due.is("overrides: a step between", x.overrides(1, 0), 1);
         x.member(5, 1, 0, 3, 0);
         due.is("overrides: two steps between", x.overrides(3, 0), 1);
+        due.is("overrides: each on the way, too", x.overrides(3, 1), 1);
+        due.is("overrides: and the one before it", x.overrides(3, 2), 1);
+        due.is("overrides: as that one does", x.overrides(1, 2), 1);
         AccessJudge y = new AccessJudge();
         y.pack(0);
         y.pack(0);

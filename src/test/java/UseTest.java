@@ -188,6 +188,9 @@ public final class UseTest {
         x.parent(6, 7);
         x.member(5, 0, 3, 3, 0);
         due.is("use: a private one of the parent is not of it", x.use(6, 2, 0, 0, 3), 5);
+        x.type(0, 0, 0, 3, 0);
+        x.member(0, 0, 4, 0, 0);
+        due.is("use: outwards to the root", x.use(9, 2, 0, 0, 4), 6);
     }
 
     private static void useByNameAloneThroughStatic() {

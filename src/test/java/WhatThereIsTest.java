@@ -116,6 +116,7 @@ public final class WhatThereIsTest {
         due.is("export(1, 2) again", x.export(1, 2), 0);
         due.is("export(1, 1): to its own module", x.export(1, 1), 1);
         due.is("export(1, 0)", x.export(1, 0), 1);
+        due.is("export(1, 2): it still is", x.export(1, 2), 0);
         due.is("export(1, -1): to each is not yet to all", x.export(1, -1), 1);
         due.is("export(1, -1) again", x.export(1, -1), 0);
         due.is("export(2, -1)", x.export(2, -1), 1);
