@@ -781,13 +781,17 @@ public final class AccessJudge {
             if (m == NO_MEMBER) {
                 return false;
             }
+            return isNearEnough(f, m)
+                    || (members.access[m] == PROTECTED && isProtectedOpen(f, how, q, m));
+        }
+
+        /** Whether a MEMBER's ACCESS suffices for f, with protected taken as package. */
+        private boolean isNearEnough(int f, int m) {
             int declarer = members.declarer[m];
             switch (members.access[m]) {
                 case PRIVATE: return types.top[f] == types.top[declarer];
-                case PACKAGE: return types.pack[f] == types.pack[declarer];
-                case PROTECTED: return types.pack[f] == types.pack[declarer]
-                        || isProtectedOpen(f, how, q, m);
-                default: return true;
+                case PUBLIC: return true;
+                default: return types.pack[f] == types.pack[declarer];
             }
         }
 
@@ -800,13 +804,7 @@ public final class AccessJudge {
         }
 
         boolean isMakerOpen(int f, int how, int m) {
-            int q = members.declarer[m];
-            switch (members.access[m]) {
-                case PRIVATE: return types.top[f] == types.top[q];
-                case PACKAGE: return types.pack[f] == types.pack[q];
-                case PROTECTED: return types.pack[f] == types.pack[q] || how != NEW;
-                default: return true;
-            }
+            return isNearEnough(f, m) || (members.access[m] == PROTECTED && how != NEW);
         }
     }
 
