@@ -1,11 +1,9 @@
 /** Promises 19 and 20: the FAULTS of a TYPE. */
 public final class FaultsTest {
     private static final int BAD = AccessJudge.BAD;
-    private static final int[] WRONG = {-1, Integer.MIN_VALUE, Integer.MAX_VALUE};
     private static final Due due = new Due("FaultsTest");
 
     public static void main(String[] args) {
-        wrongInputs();
         parentsAndFaces();
         lessAccess();
         lessAccessAcrossPackages();
@@ -28,25 +26,6 @@ public final class FaultsTest {
             due.is("fault(" + t + ", " + i + ", 1)", x.fault(t, i, 1), codesAndNumbers[2 * i + 1]);
         }
         due.is("fault: past the last", x.fault(t, codesAndNumbers.length / 2, 0), BAD);
-    }
-
-    private static void wrongInputs() {
-        AccessJudge x = new AccessJudge();
-        x.type(0, -1, 0, 3, 2);
-        x.type(0, -1, 0, 3, 0);
-        x.parent(2, 1);
-        has(x, 2, 3, 1);
-        due.is("check(3)", x.check(3), BAD);
-        due.is("fault(3, 0, 0)", x.fault(3, 0, 0), BAD);
-        due.is("fault(2, 1, 0)", x.fault(2, 1, 0), BAD);
-        due.is("fault(2, 0, 2)", x.fault(2, 0, 2), BAD);
-        due.is("fault(1, 0, 0): it has none", x.fault(1, 0, 0), BAD);
-        for (int wrong : WRONG) {
-            due.is("check(wrong)", x.check(wrong), BAD);
-            due.is("fault(wrong, 0, 0)", x.fault(wrong, 0, 0), BAD);
-            due.is("fault(2, wrong, 0)", x.fault(2, wrong, 0), BAD);
-            due.is("fault(2, 0, wrong)", x.fault(2, 0, wrong), BAD);
-        }
     }
 
     private static void parentsAndFaces() {

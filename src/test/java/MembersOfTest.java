@@ -1,11 +1,8 @@
 /** Promise 14: what is a MEMBER OF which TYPE. */
 public final class MembersOfTest {
-    private static final int BAD = AccessJudge.BAD;
-    private static final int[] WRONG = {-1, Integer.MIN_VALUE, Integer.MAX_VALUE};
     private static final Due due = new Due("MembersOfTest");
 
     public static void main(String[] args) {
-        wrongInputs();
         fromTheParent();
         packageOnesThroughPackages();
         fromFaces();
@@ -19,19 +16,6 @@ public final class MembersOfTest {
         fieldsOfSeveral();
         laterChanges();
         due.end();
-    }
-
-    private static void wrongInputs() {
-        AccessJudge x = new AccessJudge();
-        due.is("of: no members", x.of(0, 0), BAD);
-        x.member(0, 0, 0, 3, 0);
-        due.is("of: its own", x.of(0, 0), 1);
-        due.is("of: no such member", x.of(0, 1), BAD);
-        due.is("of: no such type", x.of(1, 0), BAD);
-        for (int wrong : WRONG) {
-            due.is("of(wrong, 0)", x.of(wrong, 0), BAD);
-            due.is("of(0, wrong)", x.of(0, wrong), BAD);
-        }
     }
 
     private static void fromTheParent() {

@@ -1,11 +1,8 @@
 /** Promises 15 and 16: which MEMBER a use means, which MAKER, and why none. */
 public final class UseTest {
-    private static final int BAD = AccessJudge.BAD;
-    private static final int[] WRONG = {-1, Integer.MIN_VALUE, Integer.MAX_VALUE};
     private static final Due due = new Due("UseTest");
 
     public static void main(String[] args) {
-        useWrongInputs();
         useOfWhatIsNotOpenOrThere();
         useByAccess();
         useOfProtectedByObject();
@@ -17,7 +14,6 @@ public final class UseTest {
         useBySuper();
         useOfSeveralFields();
         useOfSeveralMethods();
-        makeWrongInputs();
         makeByAccess();
         makeOfAbstractAndFinal();
         makeBySuper();
@@ -25,28 +21,6 @@ public final class UseTest {
     }
 
     // Promise 15
-    private static void useWrongInputs() {
-        AccessJudge x = new AccessJudge();
-        x.member(0, 0, 0, 3, 1);
-        due.is("use: all is well", x.use(0, 0, 0, 0, 0), 0);
-        due.is("use: no such f", x.use(1, 0, 0, 0, 0), BAD);
-        due.is("use: how 4", x.use(0, 4, 0, 0, 0), BAD);
-        due.is("use: how 0, no such q", x.use(0, 0, 1, 0, 0), BAD);
-        due.is("use: how 1, no such q", x.use(0, 1, 1, 0, 0), BAD);
-        due.is("use: kind 2", x.use(0, 0, 0, 2, 0), BAD);
-        due.is("use: name 10", x.use(0, 0, 0, 0, 10), BAD);
-        for (int wrong : WRONG) {
-            due.is("use: f wrong", x.use(wrong, 0, 0, 0, 0), BAD);
-            due.is("use: how wrong", x.use(0, wrong, 0, 0, 0), BAD);
-            due.is("use: q wrong", x.use(0, 0, wrong, 0, 0), BAD);
-            due.is("use: q wrong, how 1", x.use(0, 1, wrong, 0, 0), BAD);
-            due.is("use: kind wrong", x.use(0, 0, 0, wrong, 0), BAD);
-            due.is("use: name wrong", x.use(0, 0, 0, 0, wrong), BAD);
-            due.is("use: q is nothing by the name alone", x.use(0, 2, wrong, 0, 0), 0);
-            due.is("use: q is nothing by super", x.use(0, 3, wrong, 0, 0), -11);
-        }
-    }
-
     private static void useOfWhatIsNotOpenOrThere() {
         AccessJudge x = new AccessJudge();
         x.pack(0);
@@ -267,25 +241,6 @@ public final class UseTest {
     }
 
     // Promise 16
-    private static void makeWrongInputs() {
-        AccessJudge x = new AccessJudge();
-        x.member(0, 2, 0, 3, 0);
-        due.is("make: all is well", x.make(0, 0, 0, 0), 0);
-        due.is("make: no such f", x.make(1, 0, 0, 0), BAD);
-        due.is("make: how 3", x.make(0, 3, 0, 0), BAD);
-        due.is("make: how 0, no such q", x.make(0, 0, 1, 0), BAD);
-        due.is("make: how 1, no such q", x.make(0, 1, 1, 0), BAD);
-        due.is("make: name 10", x.make(0, 0, 0, 10), BAD);
-        for (int wrong : WRONG) {
-            due.is("make: f wrong", x.make(wrong, 0, 0, 0), BAD);
-            due.is("make: how wrong", x.make(0, wrong, 0, 0), BAD);
-            due.is("make: q wrong", x.make(0, 0, wrong, 0), BAD);
-            due.is("make: q wrong, how 1", x.make(0, 1, wrong, 0), BAD);
-            due.is("make: name wrong", x.make(0, 0, 0, wrong), BAD);
-            due.is("make: q is nothing by super", x.make(0, 2, wrong, 0), -11);
-        }
-    }
-
     private static void makeByAccess() {
         AccessJudge x = new AccessJudge();
         x.pack(0);
