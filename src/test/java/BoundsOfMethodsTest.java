@@ -1,4 +1,5 @@
 import java.io.IOException;
+import java.util.Arrays;
 
 /** The edges of promises 17 to 20: what OVERRIDES what, what is CHOSEN, and FAULTS. */
 public final class BoundsOfMethodsTest {
@@ -120,6 +121,10 @@ public final class BoundsOfMethodsTest {
         doc.is("overrides(10, 9): NAMES 0 and 9", x.overrides(10, 9), 0);
         doc.is("overrides(119, 9): NAME 9, 11 steps", x.overrides(119, 9), 1);
         doc.is("overrides(9, 119)", x.overrides(9, 119), 0);
+        AccessJudge y = Worlds.full();
+        for (int name = 9; name >= 0; name--) {
+            doc.is("NAME " + name + ", the last one first", y.overrides(10 + name, name), 1);
+        }
     }
 
     // CLASSES 1 to 39 in line, of two PACKAGES by turns, each with METHOD number t - 1: they have
@@ -326,6 +331,17 @@ public final class BoundsOfMethodsTest {
         y.member(1, METHOD, 0, PUBLIC, 0);
         y.member(2, METHOD, 0, PUBLIC, 0);
         doc.is("choose(0, 3): the one BELOW is not ABOVE t", y.choose(0, 3), 0);
+        AccessJudge z = Worlds.withTypes("c");
+        z.type(0, 1, INTERFACE, PUBLIC, STATIC);
+        z.type(0, 2, INTERFACE, PUBLIC, STATIC);
+        z.face(1, 2);
+        z.face(1, 3);
+        z.member(2, METHOD, 0, PUBLIC, 0);
+        doc.is("choose(0, 1): of an INTERFACE within t", z.choose(0, 1), 0);
+        z.member(3, METHOD, 0, PUBLIC, 0);
+        doc.is("choose(0, 1): of two within t", z.choose(0, 1), TWO);
+        z.face(3, 2);
+        doc.is("choose(0, 1): of which one is BELOW now", z.choose(0, 1), 1);
     }
 
     private static void chooseRefused() {
@@ -347,30 +363,54 @@ public final class BoundsOfMethodsTest {
         doc.taken("check(t), t", 0, 39, v -> Worlds.full().check(v));
     }
 
-    // CLASS 1, in PACKAGE 1: its PARENT 2, which is FINAL, and its FACES 3 to 6 are not OPEN to it;
-    // their FACES, 7 to 18, DECLARE METHODS of each NAME, ABSTRACT ones by turns.
+    // CLASS 1, in PACKAGE 1: its PARENT 2, which is FINAL, and its FACES 3 to 6 are not OPEN to it.
+    // Of NAMES 0 to 5 it DECLARES private METHODS, 0 to 5, and 2 STATIC FINAL ones, 6 to 11; of
+    // NAMES 6 to 9 the INTERFACES 11 to 37, which have none BELOW them but 3 to 10, DECLARE all
+    // others. With 120 MEMBERS and 40 TYPES there is no way to more FAULTS.
     private static AccessJudge mostFaults() {
         AccessJudge x = Worlds.withPacks(1);
         x.type(1, TOP, CLASS, PUBLIC, 0);
         x.type(0, TOP, CLASS, PACKAGE, FINAL);
-        for (int t = 3; t <= 18; t++) {
+        for (int t = 3; t <= 38; t++) {
             x.type(0, TOP, INTERFACE, t <= 6 ? PACKAGE : PUBLIC, 0);
         }
         x.parent(1, 2);
         for (int i = 6; i >= 3; i--) {
             x.face(1, i);
-            for (int n = 0; n < 3; n++) {
-                x.face(i, 3 * i - 2 + n);
-            }
         }
-        for (int m = 0; m < 120; m++) {
-            x.member(7 + m / 10, METHOD, m % 10, PUBLIC, isAbstractInMostFaults(m) ? ABSTRACT : 0);
+        for (int n = 0; n < 32; n++) {
+            x.face(3 + n / 4, 7 + n);
+        }
+        for (int m = 0; m < 12; m++) {
+            boolean isOwn = m < 6;
+            x.member(isOwn ? 1 : 2, METHOD, m % 6, isOwn ? PRIVATE : PUBLIC,
+                    isOwn ? 0 : STATIC + FINAL);
+        }
+        for (int m = 12; m < 120; m++) {
+            x.member(11 + (m - 12) / 4, METHOD, 6 + m % 4, PUBLIC,
+                    isAbstractInMostFaults(m) ? ABSTRACT : 0);
         }
         return x;
     }
 
     private static boolean isAbstractInMostFaults(int m) {
-        return (m / 10 + m) % 2 == 0;
+        return (m / 4 + m) % 2 == 0;
+    }
+
+    /** The FAULTS of its CLASS 1, in order: a code and a number for each. */
+    private static int[] dueInMostFaults() {
+        StringBuilder due = new StringBuilder("1 2 2 3 2 4 2 5 2 6 3 2");
+        for (int n = 0; n < 18; n++) {
+            due.append(' ').append(4 + n / 6).append(' ').append(n % 6);
+        }
+        for (int code = 7; code <= 8; code++) {
+            for (int m = 12; m < 120; m++) {
+                if (isAbstractInMostFaults(m) == (code == 7)) {
+                    due.append(' ').append(code).append(' ').append(m);
+                }
+            }
+        }
+        return Arrays.stream(due.toString().split(" ")).mapToInt(Integer::parseInt).toArray();
     }
 
     private static void checkNoneAndMost() {
@@ -380,22 +420,11 @@ public final class BoundsOfMethodsTest {
         doc.is("check(0)", full.check(0), 0);
         doc.is("check(39)", full.check(39), 0);
         AccessJudge x = mostFaults();
-        doc.is("check(1): PARENT twice, 4 FACES, 120 METHODS", x.check(1), 126);
+        doc.is("check(1): PARENT twice, 4 FACES, 6 METHODS d thrice, 108 METHODS", x.check(1), 132);
         doc.is("check(2)", x.check(2), 0);
-        doc.is("check(6): an INTERFACE's METHODS may be ABSTRACT", x.check(6), 15);
+        doc.is("check(10): an INTERFACE's METHODS may be ABSTRACT", x.check(10), 6);
         doc.at(20, ORDER);
-        int[] codes = {1, 2, 2, 2, 2, 3};
-        int[] numbers = {2, 3, 4, 5, 6, 2};
-        for (int i = 0; i < 6; i++) {
-            doc.is("fault(1, " + i + ", 0)", x.fault(1, i, 0), codes[i]);
-            doc.is("fault(1, " + i + ", 1)", x.fault(1, i, 1), numbers[i]);
-        }
-        int[] next = {6, 66};
-        for (int m = 0; m < 120; m++) {
-            int i = next[isAbstractInMostFaults(m) ? 0 : 1]++;
-            doc.is("fault(1, " + i + ", 0)", x.fault(1, i, 0), isAbstractInMostFaults(m) ? 7 : 8);
-            doc.is("fault(1, " + i + ", 1)", x.fault(1, i, 1), m);
-        }
+        has("most FAULTS", mostFaults(), 1, dueInMostFaults());
     }
 
     private static void faultBounds() {
@@ -408,13 +437,13 @@ public final class BoundsOfMethodsTest {
         for (int what = 0; what <= 1; what++) {
             int asked = what;
             doc.taken("fault(1, i, what), one FAULT, i", 0, 0, v -> oneFault().fault(1, v, asked));
-            doc.taken("fault(1, i, what), most FAULTS, i", 0, 125,
+            doc.taken("fault(1, i, what), most FAULTS, i", 0, 131,
                     v -> mostFaults().fault(1, v, asked));
             doc.taken("fault(2, i, what), no FAULT, i", 0, -1,
                     v -> mostFaults().fault(2, v, asked));
         }
         doc.taken("fault(1, 0, what), what", 0, 1, v -> oneFault().fault(1, 0, v));
-        doc.taken("fault(1, 125, what), what", 0, 1, v -> mostFaults().fault(1, 125, v));
+        doc.taken("fault(1, 131, what), what", 0, 1, v -> mostFaults().fault(1, 131, v));
         doc.taken("fault(t, 0, 0), all CLASSES FINAL, t", 2, 39, v -> allFinal().fault(v, 0, 0));
     }
 

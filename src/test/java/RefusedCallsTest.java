@@ -5,7 +5,8 @@ import java.util.List;
 
 /**
  * What is refused changes nothing: objects to which many calls were refused answer all later
- * calls as those to which none was. No object is used for more calls than the document allows.
+ * calls as those to which none was; and those that were asked much as those that were asked
+ * nothing. No object is used for more calls than the document allows.
  */
 public final class RefusedCallsTest {
     private static final int LATER = 240;
@@ -23,6 +24,8 @@ public final class RefusedCallsTest {
         asManyAsThereMayBe();
         nothingYet();
         betweenTheCalls();
+        askedAheadOfEachCall(someOfEach());
+        askedAheadOfEachCall(membersAheadOfTypes());
         doc.end(2, 3, 4, 5, 6, 7, 8, 9, 10, 11, 12, 13, 14, 15, 16, 17, 18, 19, 20);
     }
 
@@ -357,6 +360,54 @@ public final class RefusedCallsTest {
         }
         for (int p = 0; p < pieces.size(); p++) {
             hold(List.of(new int[] {Calls.COUNT, -1}), pieces.get(p), answersDue.get(p));
+        }
+    }
+    // MEMBERS come with their DECLARERS, so that each later TYPE, PARENT and FACE brings some.
+    private static List<int[]> membersAheadOfTypes() {
+        List<int[]> plain = someOfEach();
+        List<int[]> all = new ArrayList<>();
+        all.add(new int[] {Calls.MEMBER, 0, 0, 2, 3, 0});
+        all.add(new int[] {Calls.MEMBER, 0, 1, 1, 3, 2});
+        int types = 1;
+        for (int[] call : plain) {
+            if (call[0] != Calls.MEMBER) {
+                all.add(call);
+            }
+            for (int[] member : plain) {
+                if (call[0] == Calls.TYPE && member[0] == Calls.MEMBER && member[1] == types) {
+                    all.add(member);
+                }
+            }
+            types += call[0] == Calls.TYPE ? 1 : 0;
+        }
+        return all;
+    }
+
+    /** Whoever is asked ahead of a change answers afterwards as one that was not. */
+    private static void askedAheadOfEachCall(List<int[]> plain) {
+        List<int[]> later = questions(11, 14, 3);
+        for (int t = 0; t <= 11; t++) {
+            add(Calls.ABOUT, t, 5);
+            add(Calls.CHECK, t);
+            add(Calls.OVERRIDES, t, t + 1);
+            add(Calls.CHOOSE, t, 8);
+        }
+        List<int[]> asked = taken();
+        for (int n = 0; n < plain.size(); n++) {
+            doc.at(plain.get(n)[0] + 2, "Nothing is promised beyond the answers and state changes "
+                    + "described above");
+            for (int from = 0; from < later.size(); from += LATER) {
+                List<int[]> piece = later.subList(from, Math.min(from + LATER, later.size()));
+                world = plain.subList(0, n + 1);
+                int[] due = answers(piece, new ArrayList<>());
+                world = new ArrayList<>(plain.subList(0, n));
+                world.addAll(asked);
+                int[] got = answers(piece, List.of(plain.get(n)));
+                for (int i = 0; i < due.length; i++) {
+                    doc.is(Calls.text(piece.get(i)) + ", asked before call " + n + ", "
+                            + Calls.text(plain.get(n)), got[i], due[i]);
+                }
+            }
         }
     }
 }
