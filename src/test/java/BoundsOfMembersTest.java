@@ -38,6 +38,7 @@ public final class BoundsOfMembersTest {
         ofFacesOnes();
         ofFacesOnesBesideTheParents();
         ofFacesOnesBesideLowerOnes();
+        ofParentsOnesBesideLowerOnes();
         ofAsMany();
         ofRefused();
         doc.end(9, 10, 11, 14);
@@ -499,6 +500,28 @@ public final class BoundsOfMembersTest {
         doc.is("of(3, 1): of the PARENT, but not INHERITED", x.of(3, 1), 0);
         doc.is("of(3, 0): one of the PARENT is BELOW it", x.of(3, 0), 0);
         doc.is("of(4, 0): none is", x.of(4, 0), 1);
+    }
+
+    private static void ofParentsOnesBesideLowerOnes() {
+        doc.at(14, "of the PARENT: not private; with ACCESS package only, if their DECLARER has the"
+                + " PACKAGE of this TYPE;");
+        AccessJudge x = Worlds.withTypes("iicc");
+        x.face(2, 1);
+        x.face(3, 1);
+        x.parent(4, 3);
+        x.member(1, METHOD, 0, PUBLIC, 0);
+        x.member(2, METHOD, 0, PUBLIC, 0);
+        doc.is("of(4, 0)", x.of(4, 0), 1);
+        x.face(4, 2);
+        doc.is("of(4, 1): of a FACE", x.of(4, 1), 1);
+        doc.is("of(4, 0): of the PARENT, though its DECLARER is ABOVE", x.of(4, 0), 1);
+        x.face(4, 1);
+        doc.is("of(4, 0): of a FACE that it does not come from, but of the PARENT", x.of(4, 0), 1);
+        doc.is("about(4, 5)", x.about(4, 5), 2);
+        x.face(3, 2);
+        doc.is("of(3, 0): of FACES alone", x.of(3, 0), 0);
+        doc.is("of(4, 0): not OF the PARENT any more", x.of(4, 0), 0);
+        doc.is("about(4, 5)", x.about(4, 5), 1);
     }
 
     private static void ofAsMany() {
